@@ -1,11 +1,21 @@
+import java.util.List;
 import java.util.function.LongSupplier;
 
 /** Counts and prints what is not as due. */
 final class Check {
     private static int checks = 0;
     private static int wrong = 0;
+    private static String sentence = "";
 
     private Check() {
+    }
+
+    /** The next checks test this sentence of the document; with -Dsentences=true it is printed. */
+    static void about(String place, String words) {
+        sentence = place + ", \"" + words + "\": ";
+        if (Boolean.getBoolean("sentences")) {
+            System.out.println(place + "\t" + words);
+        }
     }
 
     static void count() {
@@ -15,6 +25,13 @@ final class Check {
     static void same(String what, long due, long got) {
         checks++;
         if (due != got) {
+            fail(what + " answered " + got + ", due is " + due);
+        }
+    }
+
+    static void same(String what, List<Long> due, List<Long> got) {
+        checks++;
+        if (!due.equals(got)) {
             fail(what + " answered " + got + ", due is " + due);
         }
     }
@@ -33,7 +50,7 @@ final class Check {
     static void fail(String line) {
         wrong++;
         if (wrong <= 40) {
-            System.out.println(line);
+            System.out.println(sentence + line);
         }
     }
 

@@ -1,10 +1,7 @@
 import java.util.function.LongSupplier;
 
 /** Each promise by itself, with answers worked out by hand from the document. */
-public final class PromisesTest {
-    private static final Class<IndexOutOfBoundsException> INDEX = IndexOutOfBoundsException.class;
-    private static final Class<IllegalArgumentException> ARGUMENT = IllegalArgumentException.class;
-    private static final Class<IllegalStateException> STATE = IllegalStateException.class;
+public final class PromisesTest extends Scenes {
     private static final int[] WRONG_KINDS = {-1, 3, Integer.MIN_VALUE, Integer.MAX_VALUE};
 
     private PromisesTest() {
@@ -16,63 +13,6 @@ public final class PromisesTest {
         long before = x.digest();
         Check.refuses(what, due, call);
         Check.same(what + " changes nothing", before, x.digest());
-    }
-
-    private static void type(CorkPermits x, String text) {
-        for (char c : text.toCharArray()) {
-            x.append(c);
-        }
-    }
-
-    private static void counts(String when, CorkPermits x, int... due) {
-        for (int what = 0; what < due.length; what++) {
-            Check.same(when + " count(" + what + ")", due[what], x.count(what));
-        }
-    }
-
-    private static void kinds(String when, CorkPermits x, int kind, int... due) {
-        for (int what = 0; what < due.length; what++) {
-            Check.same(when + " kind(" + kind + ", " + what + ")", due[what], x.kind(kind, what));
-        }
-    }
-
-    private static void numbers(String when, CorkPermits x, int house, int kind, int... due) {
-        for (int what = 0; what < due.length; what++) {
-            Check.same(when + " houseOf(" + house + ", " + kind + ", " + what + ")", due[what],
-                    x.houseOf(house, kind, what));
-        }
-    }
-
-    private static void letters(String when, CorkPermits x, int rank, int... due) {
-        for (int what = 0; what < due.length; what++) {
-            Check.same(when + " letter(" + rank + ", " + what + ")", due[what], x.letter(rank, what));
-        }
-    }
-
-    private static void wantMany(CorkPermits x, int house, int kind, int many) {
-        for (int i = 0; i < many; i++) {
-            x.want(house, kind);
-        }
-    }
-
-    private static void lendMany(CorkPermits x, int house, int kind, int many) {
-        for (int i = 0; i < many; i++) {
-            x.lend(house, kind);
-        }
-    }
-
-    private static CorkPermits withHouses(int many) {
-        CorkPermits x = new CorkPermits();
-        for (int i = 0; i < many; i++) {
-            x.house();
-        }
-        return x;
-    }
-
-    private static void fillWithLetters(CorkPermits x) {
-        while (x.count(2) < 40) {
-            x.ask(0, 0);
-        }
     }
 
     private static void newObject() {
@@ -639,47 +579,6 @@ public final class PromisesTest {
         Check.same("letters lost", told[3], y.count(4) - soFar[3]);
     }
 
-    /**
-     * Nearly the longest that letters go on: 40 pours of houses 0 to 2 keep the room from a pour of
-     * house 3, which frees bottles when it arrives; then house 0 gets cork after cork by itself.
-     */
-    private static CorkPermits longUnderWay() {
-        CorkPermits x = withHouses(4);
-        for (int kind = 0; kind < 3; kind++) {
-            x.bottles(kind, 20);
-        }
-        x.set(0, 1);
-        lendMany(x, 3, 0, 20);
-        x.pass(1);
-        x.set(1, 1);
-        for (int many : new int[] {9, 9, 1}) {
-            wantMany(x, 3, 0, many);
-            x.pass(9);
-        }
-        x.set(1, 0);
-        for (int kind = 1; kind < 3; kind++) {
-            for (int house = 0; house < 3; house++) {
-                lendMany(x, house, kind, house < 2 ? 7 : 6);
-            }
-            x.pass(1);
-        }
-        x.set(0, 9);
-        for (int letter = 0; letter < 40; letter++) {
-            if (letter > 0 && letter % 6 == 0) {
-                x.pass(1);
-            }
-            x.ask(0, 0);
-        }
-        for (int house = 0; house < 3; house++) {
-            wantMany(x, house, 1, house < 2 ? 7 : 6);
-            wantMany(x, house, 2, house < 2 ? 7 : 6);
-        }
-        x.want(3, 0);
-        wantMany(x, 0, 0, 9);
-        x.set(2, 1);
-        return x;
-    }
-
     private static void stillIn() {
         CorkPermits x = withHouses(1);
         Check.same("nothing under way", 0, x.stillIn());
@@ -693,10 +592,14 @@ public final class PromisesTest {
         Check.same("200 ticks", 200, y.stillIn());
         y.pass(1);
         Check.same("199 ticks", 199, y.stillIn());
-        for (int left = 199; left > 1; left--) {
+        for (int left = 199; left > 70; left--) {
             y.pass(1);
             Check.same("under way", 1, y.count(2) > 0 ? 1 : 0);
         }
+        y.pass(60);
+        Check.same("10 ticks", 10, y.stillIn());
+        y.pass(9);
+        Check.same("under way", 1, y.count(2) > 0 ? 1 : 0);
         y.pass(1);
         Check.same("still", 0, y.count(2));
     }
@@ -764,14 +667,6 @@ public final class PromisesTest {
         Check.same("known to be lost", 6, x.count(7));
     }
 
-    private static long hashOf(long start, long... values) {
-        long hash = start;
-        for (long value : values) {
-            hash = 31 * hash + value;
-        }
-        return hash;
-    }
-
     private static void digest() {
         CorkPermits x = new CorkPermits();
         long hash = hashOf(3253, 0, 0, 0, 0, 0, 0, 0, 0, 0, 0, 0, 0, 2, 0, 0);
@@ -788,41 +683,14 @@ public final class PromisesTest {
         x.append('t');
         x.append('!');
         Check.same("digest with a text", hashOf(hash, 0, 1, 2, 116, 33), x.digest());
-        CorkPermits y = busy();
         for (int ticks = 1; ticks <= 12; ticks++) {
-            Check.same("digest of much", hashOfLooks(y), y.digest());
-            y.pass(1);
+            CorkPermits y = busy();
+            y.pass(ticks);
+            Check.same("digest of much", hashOfLooks(y, 0, 0, ""), y.digest());
+            Check.same("digest of a share", 1, ticks < 12 || y.arrivedShare() < 1.0 ? 1 : 0);
         }
-        Check.same("digest of a share", 1, y.arrivedShare() < 1.0 ? 1 : 0);
         CorkPermits z = longUnderWay();
-        Check.same("digest of four houses", hashOfLooks(z), z.digest());
-    }
-
-    /** The hash of an object with empty slots and an empty buffer, from its other answers. */
-    private static long hashOfLooks(CorkPermits x) {
-        long hash = 3253;
-        for (int what = 0; what <= 11; what++) {
-            hash = hashOf(hash, x.count(what));
-        }
-        hash = hashOf(hash, x.setting(0), x.setting(1), x.setting(2));
-        for (int kind = 0; kind < 3; kind++) {
-            for (int what = 0; what <= 6; what++) {
-                hash = hashOf(hash, x.kind(kind, what));
-            }
-        }
-        for (int place = 0; place < x.count(1) * 3; place++) {
-            for (int what = 0; what <= 9; what++) {
-                hash = hashOf(hash, x.houseOf(place / 3, place % 3, what));
-            }
-        }
-        for (int value = 0; value < 50; value++) {
-            hash = hashOf(hash, x.letter(value / 5, value % 5));
-        }
-        for (int what = 0; what <= 3; what++) {
-            hash = hashOf(hash, x.ifPassed(12, what));
-        }
-        hash = hashOf(hash, x.stillIn(), x.hidden(), x.neediest());
-        return hashOf(hash, Double.doubleToLongBits(x.arrivedShare()), 0, 0, 0);
+        Check.same("digest of four houses", hashOfLooks(z, 0, 0, ""), z.digest());
     }
 
     public static void main(String[] args) {
