@@ -3,7 +3,6 @@ import java.lang.reflect.Field;
 import java.lang.reflect.Method;
 import java.lang.reflect.Modifier;
 import java.util.ArrayList;
-import java.util.Arrays;
 import java.util.List;
 import java.util.TreeSet;
 
@@ -53,9 +52,28 @@ public final class FaceTest {
     }
 
     private static String describe(Method m) {
-        String line = m.getReturnType().getSimpleName() + " " + m.getName() + "("
-                + names(m.getParameterTypes(), ",") + ") " + names(m.getExceptionTypes(), " ");
+        String line = Modifier.toString(m.getModifiers()) + " " + m.getReturnType().getSimpleName() + " "
+                + m.getName() + "(" + names(m.getParameterTypes(), ",") + ") "
+                + names(m.getExceptionTypes(), " ");
         return line.trim();
+    }
+
+    private static void constructorAndConstant(Class<?> face) {
+        Constructor<?>[] makers = face.getDeclaredConstructors();
+        Check.same("constructors", 1, makers.length);
+        Check.same("parameters", 0, makers[0].getParameterCount());
+        Check.same("exceptions of the constructor", 0, makers[0].getExceptionTypes().length);
+        Check.same("the constructor is public", Modifier.PUBLIC, makers[0].getModifiers());
+        for (Field f : face.getDeclaredFields()) {
+            if (f.getName().equals("NONE")) {
+                Check.same("NONE is public static final",
+                        Modifier.PUBLIC | Modifier.STATIC | Modifier.FINAL, f.getModifiers());
+                Check.same("NONE is an int", 1, f.getType() == int.class ? 1 : 0);
+            } else if (!Modifier.isPrivate(f.getModifiers())) {
+                Check.fail("the field " + f.getName() + " can be seen");
+            }
+        }
+        Check.same("NONE", -1, CorkPermits.NONE);
     }
 
     public static void main(String[] args) {
@@ -63,7 +81,10 @@ public final class FaceTest {
         Check.same("final", 1, Modifier.isFinal(face.getModifiers()) ? 1 : 0);
         Check.same("public", 1, Modifier.isPublic(face.getModifiers()) ? 1 : 0);
         TreeSet<String> publicNames = new TreeSet<>();
-        TreeSet<String> due = new TreeSet<>(Arrays.asList(METHODS));
+        TreeSet<String> due = new TreeSet<>();
+        for (String method : METHODS) {
+            due.add("public " + method);
+        }
         TreeSet<String> got = new TreeSet<>();
         for (Method m : face.getDeclaredMethods()) {
             if (!Modifier.isPrivate(m.getModifiers()) && !m.isSynthetic()) {
@@ -79,14 +100,7 @@ public final class FaceTest {
                 Check.fail("a private method bears the name " + m.getName());
             }
         }
-        for (Field f : face.getDeclaredFields()) {
-            if (!Modifier.isPrivate(f.getModifiers()) && !f.getName().equals("NONE")) {
-                Check.fail("the field " + f.getName() + " can be seen");
-            }
-        }
-        Constructor<?>[] makers = face.getDeclaredConstructors();
-        Check.same("constructors", 1, makers.length);
-        Check.same("parameters", 0, makers[0].getParameterCount());
+        constructorAndConstant(face);
         for (Class<?> inside : face.getDeclaredClasses()) {
             Check.same(inside.getName() + " is static", 1,
                     Modifier.isStatic(inside.getModifiers()) ? 1 : 0);
@@ -98,7 +112,6 @@ public final class FaceTest {
                 }
             }
         }
-        Check.same("NONE", -1, CorkPermits.NONE);
         Check.end();
     }
 }
